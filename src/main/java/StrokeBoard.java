@@ -123,7 +123,7 @@ public final class StrokeBoard {
             return LIMIT_REACHED;
         }
         int id = log.addStroke(site, tick(site), pens);
-        pens.start(site, 0, 0);
+        pens.empty(site);
         publish(site, id);
         return numberOf(id);
     }
@@ -186,7 +186,7 @@ public final class StrokeBoard {
         int delivered = 0;
         for (int from = 0; from < siteCount; from++) {
             for (int to = 0; to < siteCount; to++) {
-                delivered += empty(from, to);
+                delivered += deliverLink(from, to);
             }
         }
         return delivered;
@@ -204,9 +204,11 @@ public final class StrokeBoard {
         int before = 0;
         // A gap is counted when a known number ends it: what lies above the greatest is none.
         for (int number = 1; number <= MAX_NUMBER; number++) {
-            if (!knowledge.has(site, idOf(author, number))) {
-                first = first == 0 ? number : first;
-            } else if (first != 0) {
+            boolean isKnown = knowledge.has(site, idOf(author, number));
+            if (!isKnown && first == 0) {
+                first = number;
+            }
+            if (isKnown && first != 0) {
                 if (before == index) {
                     return 100 * first + number - 1;
                 }
@@ -445,7 +447,7 @@ public final class StrokeBoard {
         return NONE;
     }
 
-    private int empty(int from, int to) {
+    private int deliverLink(int from, int to) {
         int count = links.countIn(from, to);
         for (int k = 0; k < count; k++) {
             receive(to, links.messageIn(from, to, 0));
@@ -569,8 +571,12 @@ public final class StrokeBoard {
             counts.fill(0);
         }
 
-        void start(int slot, int color, int layer) {
+        void empty(int slot) {
             counts.set(slot, 0);
+        }
+
+        void start(int slot, int color, int layer) {
+            empty(slot);
             colors.set(slot, color);
             layers.set(slot, layer);
         }
@@ -651,7 +657,6 @@ public final class StrokeBoard {
         int addStroke(int author, int time, Ink pens) {
             int id = addOperation(author, time, STROKE);
             ink.copyFrom(pens, author, id);
-            targets.set(id, id);
             layers.set(id, ink.layerOf(id));
             return id;
         }

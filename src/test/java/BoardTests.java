@@ -197,6 +197,14 @@ final class BoardTests {
         Draw.dot(board, 0, 0, 0, 0, 0);
         board.deliverAll();
         strokesAre(due, board, 2, 1, 101, 201, 2, 3, 102);
+        board.reset(3);
+        Draw.dot(board, 2, 0, 0, 0, 0);
+        board.deliver(2, 0);
+        Draw.dot(board, 0, 0, 0, 0, 0);
+        board.lose(2, 1);
+        Draw.dot(board, 1, 0, 0, 0, 0);
+        board.deliverAll();
+        strokesAre(due, board, 0, 101, 201, 1);
     }
 
     private static void lastLift(Checks due) {
@@ -286,11 +294,13 @@ final class BoardTests {
         due.is("between points", board.strokeAt(0, 67, -4), Checks.MISSING);
         due.is("x and y changed about", board.strokeAt(0, 0, 63), Checks.MISSING);
         due.is("another site", board.strokeAt(1, 63, 0), Checks.MISSING);
+        due.is("a place that no point has", board.strokeAt(0, 0, 0), Checks.MISSING);
         Draw.dot(board, 0, 63, 0, 2, 1);
         Draw.dot(board, 0, 63, 0, 3, 0);
         Draw.dot(board, 0, 1, 1, 3, 3);
         due.is("the uppermost", board.strokeAt(0, 63, 0), 2);
         due.is("its number", board.stroke(0, 2, 1), 2);
+        due.is("a second point that the dots have not", board.strokeAt(0, 0, 0), Checks.MISSING);
         due.is("an undone one first", board.undo(0), 4);
         due.is("an undone one", board.strokeAt(0, 1, 1), Checks.MISSING);
         board.lift(0, 1, 3);

@@ -133,6 +133,16 @@ final class FutureTests {
         due.is("an UNDO is lost too", board.endangered(0), 2);
         board.transfer(2, 0);
         due.is("transferred", board.endangered(0), 0);
+        Draw.dot(board, 1, 1, 1, 1, 1);
+        board.lose(1, 2);
+        due.is("in the link to site 0", board.endangered(1), 0);
+        board.deliver(1, 0);
+        due.is("known to site 0", board.endangered(1), 0);
+        Draw.dot(board, 1, 1, 1, 1, 1);
+        board.lose(1, 0);
+        due.is("in the link to site 2", board.endangered(1), 0);
+        board.lose(1, 2);
+        due.is("known to none", board.endangered(1), 1);
     }
 
     private static void endangeredEdges(Checks due) {

@@ -234,6 +234,17 @@ final class LinkTests {
         due.is("4", board.repair(1, 0), 1);
         due.is("no link was used", board.waiting(3, 0), 0);
         due.is("the messages wait as before", board.waiting(0, 3), 6);
+        deliverOnly(board, 0, 3);
+        Draw.dots(board, 0, 14);
+        deliverOnly(board, 0, 3);
+        due.is("a gap before none", board.repair(3, 0), 0);
+        board.reset(2);
+        Draw.dots(board, 1, 10);
+        deliverOnly(board, 1, 0);
+        Draw.dots(board, 1, 10);
+        deliverOnly(board, 1, 0, 10);
+        due.is("a gap before the twentieth", board.repair(0, 1), 19);
+        due.is("all known", board.siteInfo(0, 1), 20);
         board.reset(1);
         due.is("1 site", board.repair(0, 0), Checks.INVALID);
     }
@@ -296,5 +307,8 @@ final class LinkTests {
         due.is("clock after", board.siteInfo(2, 0), 6);
         due.is("back", board.transfer(1, 2), 4);
         due.is("the greater clock stays", board.siteInfo(1, 0), 6);
+        Draw.dots(board, 0, 9);
+        due.is("a helper with a smaller clock", board.transfer(0, 1), 6 * 4);
+        due.is("its own clock stays", board.siteInfo(0, 0), 10);
     }
 }
