@@ -20,7 +20,7 @@ final class BoardTests {
         checks.test("promise 24: areSame", BoardTests::areSame);
     }
 
-    private static void operationIs(Checks due, StrokeBoard board, int author, int number, int... want) {
+    private static void operationIs(Checks due, Played board, int author, int number, int... want) {
         for (int what = 0; what <= 5; what++) {
             due.is("operation(" + author + ", " + number + ", " + what + ")",
                     board.operation(author, number, what), want[what]);
@@ -28,7 +28,7 @@ final class BoardTests {
     }
 
     private static void operation(Checks due) {
-        StrokeBoard board = new StrokeBoard();
+        Played board = new Played();
         board.penDown(0, 5, 6, 7, 2);
         board.penMove(0, 8, 0);
         board.penMove(0, 1, 1);
@@ -54,7 +54,7 @@ final class BoardTests {
     }
 
     private static void strokeSize(Checks due) {
-        StrokeBoard board = new StrokeBoard();
+        Played board = new Played();
         sizeIs(due, board, 4);
         sizeIs(due, board, 5, 0, 0);
         sizeIs(due, board, 5, -4, -4);
@@ -70,13 +70,13 @@ final class BoardTests {
         sizeIs(due, board, 4 + 1 + 2 + 2 + 1, -4, 3, 4, -4, -5, 0, 0, 0);
     }
 
-    private static void sizeIs(Checks due, StrokeBoard board, int want, int... steps) {
+    private static void sizeIs(Checks due, Played board, int want, int... steps) {
         int number = Draw.line(board, 0, steps);
         due.is("size of stroke " + number, board.operation(0, number, 2), want);
     }
 
     private static void operationWrong(Checks due) {
-        StrokeBoard board = new StrokeBoard();
+        Played board = new Played();
         Draw.dots(board, 0, 2);
         due.unchanged("wrong operation", board, () -> {
             due.is("author -1", board.operation(-1, 1, 0), Checks.INVALID);
@@ -98,7 +98,7 @@ final class BoardTests {
     }
 
     private static void knows(Checks due) {
-        StrokeBoard board = Draw.withSites(3);
+        Played board = Draw.withSites(3);
         Draw.dots(board, 0, 2);
         due.is("its own", board.knows(0, 0, 2), 1);
         due.is("not yet", board.knows(1, 0, 1), 0);
@@ -128,7 +128,7 @@ final class BoardTests {
     }
 
     private static void stroke(Checks due) {
-        StrokeBoard board = Draw.withSites(5);
+        Played board = Draw.withSites(5);
         Draw.dot(board, 4, 1, 1, 1, 0);
         board.penDown(4, 63, 0, 6, 1);
         for (int k = 0; k < 7; k++) {
@@ -152,7 +152,7 @@ final class BoardTests {
         due.is("another site knows none", board.stroke(1, 0, 0), Checks.MISSING);
     }
 
-    private static void strokesAre(Checks due, StrokeBoard board, int site, int... want) {
+    private static void strokesAre(Checks due, Played board, int site, int... want) {
         due.is("strokes of site " + site, board.siteInfo(site, 3), want.length);
         for (int place = 0; place < want.length; place++) {
             int got = 100 * board.stroke(site, place, 0) + board.stroke(site, place, 1);
@@ -161,7 +161,7 @@ final class BoardTests {
     }
 
     private static void order(Checks due) {
-        StrokeBoard board = new StrokeBoard();
+        Played board = new Played();
         Draw.dot(board, 0, 0, 0, 0, 3);
         Draw.dot(board, 0, 0, 0, 0, 1);
         Draw.dot(board, 0, 0, 0, 0, 2);
@@ -184,7 +184,7 @@ final class BoardTests {
     }
 
     private static void equalTimes(Checks due) {
-        StrokeBoard board = Draw.withSites(3);
+        Played board = Draw.withSites(3);
         Draw.dot(board, 2, 0, 0, 0, 0);
         Draw.dot(board, 0, 0, 0, 0, 0);
         Draw.dot(board, 1, 0, 0, 0, 0);
@@ -208,7 +208,7 @@ final class BoardTests {
     }
 
     private static void lastLift(Checks due) {
-        StrokeBoard board = Draw.withSites(3);
+        Played board = Draw.withSites(3);
         Draw.dot(board, 0, 0, 0, 0, 0);
         board.deliverAll();
         board.lift(2, 0, 2);
@@ -231,7 +231,7 @@ final class BoardTests {
     }
 
     private static void beforeStroke(Checks due) {
-        StrokeBoard board = Draw.withSites(4);
+        Played board = Draw.withSites(4);
         Draw.dot(board, 0, 7, 7, 0, 0);
         board.deliver(0, 1);
         board.lift(1, 0, 3);
@@ -257,7 +257,7 @@ final class BoardTests {
     }
 
     private static void strokeWrong(Checks due) {
-        StrokeBoard board = new StrokeBoard();
+        Played board = new Played();
         Draw.dots(board, 0, 2);
         due.unchanged("wrong stroke", board, () -> {
             due.is("site -1", board.stroke(-1, 0, 0), Checks.INVALID);
@@ -281,7 +281,7 @@ final class BoardTests {
     }
 
     private static void strokeAt(Checks due) {
-        StrokeBoard board = new StrokeBoard();
+        Played board = new Played();
         due.is("an empty board", board.strokeAt(0, 0, 0), Checks.MISSING);
         board.penDown(0, 63, 0, 1, 1);
         for (int k = 0; k < 7; k++) {
@@ -308,7 +308,7 @@ final class BoardTests {
     }
 
     private static void strokeAtWrong(Checks due) {
-        StrokeBoard board = new StrokeBoard();
+        Played board = new Played();
         Draw.dot(board, 0, 0, 0, 0, 0);
         due.unchanged("wrong strokeAt", board, () -> {
             due.is("site -1", board.strokeAt(-1, 0, 0), Checks.INVALID);
@@ -338,7 +338,7 @@ final class BoardTests {
     }
 
     private static void digest(Checks due) {
-        StrokeBoard board = new StrokeBoard();
+        Played board = new Played();
         due.is("an empty board", board.digest(1), 17);
         due.is("digest(2)", board.digest(2), 0);
         due.is("digest(-1)", board.digest(-1), 0);
@@ -361,7 +361,7 @@ final class BoardTests {
     }
 
     private static void areSame(Checks due) {
-        StrokeBoard board = Draw.withSites(3);
+        Played board = Draw.withSites(3);
         due.is("empty boards", board.areSame(0, 1), 1);
         due.is("a board and itself", board.areSame(2, 2), 1);
         Draw.dot(board, 0, 1, 1, 1, 1);

@@ -1,3 +1,6 @@
+import java.util.Set;
+import java.util.TreeSet;
+
 /** Counts tests and tells every answer that is not the one that is due. */
 final class Checks {
     static final int INVALID = -1000000001;
@@ -8,6 +11,7 @@ final class Checks {
     /** Values outside of every range of the document, the greatest ones of the machine too. */
     static final int[] FAR = {Integer.MIN_VALUE, Integer.MIN_VALUE + 1, -1000000, 1000000, Integer.MAX_VALUE};
 
+    private final Set<String> titles = new TreeSet<>();
     private int passed;
     private int failed;
     private int wrong;
@@ -20,6 +24,7 @@ final class Checks {
     void test(String title, Test test) {
         name = title;
         wrong = 0;
+        holds("no other test is named so", titles.add(title));
         try {
             test.run(this);
         } catch (RuntimeException | Error thrown) {
@@ -47,11 +52,20 @@ final class Checks {
     }
 
     /** The calls that are due to be refused must leave all that a caller can see as it was. */
-    void unchanged(String calls, StrokeBoard board, Runnable run) {
+    void unchanged(String calls, Played board, Runnable run) {
         String before = Snapshot.of(board);
         run.run();
         String after = Snapshot.of(board);
         holds("nothing changed by " + calls, before.equals(after));
+    }
+
+    boolean hasTestOf(String start) {
+        for (String title : titles) {
+            if (title.startsWith(start)) {
+                return true;
+            }
+        }
+        return false;
     }
 
     int passed() {

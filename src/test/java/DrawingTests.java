@@ -21,7 +21,7 @@ final class DrawingTests {
     }
 
     private static void penDown(Checks due) {
-        StrokeBoard board = new StrokeBoard();
+        Played board = new Played();
         due.is("penDown, smallest", board.penDown(0, 0, 0, 0, 0), 1);
         due.is("points", board.siteInfo(0, 4), 1);
         due.is("penMove", board.penMove(0, 1, 1), 2);
@@ -43,7 +43,7 @@ final class DrawingTests {
     }
 
     private static void penDownWrong(Checks due) {
-        StrokeBoard board = new StrokeBoard();
+        Played board = new Played();
         board.penDown(0, 7, 7, 1, 1);
         board.penMove(0, 2, 2);
         due.unchanged("wrong penDown", board, () -> {
@@ -71,7 +71,7 @@ final class DrawingTests {
     }
 
     private static void penMove(Checks due) {
-        StrokeBoard board = new StrokeBoard();
+        Played board = new Played();
         board.penDown(0, 0, 63, 0, 0);
         due.is("penMove(-8, 8)", board.penMove(0, -8, 8), 2);
         due.is("penMove(8, -8)", board.penMove(0, 8, -8), 3);
@@ -93,7 +93,7 @@ final class DrawingTests {
     }
 
     private static void penMoveWrong(Checks due) {
-        StrokeBoard board = new StrokeBoard();
+        Played board = new Played();
         due.is("pen not down", board.penMove(0, 0, 0), Checks.IMPOSSIBLE);
         due.is("pen not down, dx 9", board.penMove(0, 9, 0), Checks.INVALID);
         board.penDown(0, 1, 1, 1, 1);
@@ -116,7 +116,7 @@ final class DrawingTests {
     }
 
     private static void penUp(Checks due) {
-        StrokeBoard board = Draw.withSites(3);
+        Played board = Draw.withSites(3);
         board.penDown(1, 3, 4, 5, 2);
         due.is("penUp(1)", board.penUp(1), 1);
         due.is("pen is up", board.siteInfo(1, 4), 0);
@@ -134,7 +134,7 @@ final class DrawingTests {
     }
 
     private static void penUpWrong(Checks due) {
-        StrokeBoard board = new StrokeBoard();
+        Played board = new Played();
         due.is("penUp(-1)", board.penUp(-1), Checks.INVALID);
         due.is("penUp(2)", board.penUp(2), Checks.INVALID);
         for (int far : Checks.FAR) {
@@ -153,7 +153,7 @@ final class DrawingTests {
     }
 
     private static void undo(Checks due) {
-        StrokeBoard board = new StrokeBoard();
+        Played board = new Played();
         Draw.dots(board, 0, 2);
         due.is("undo(0)", board.undo(0), 2);
         due.is("kind", board.operation(0, 3, 0), StrokeBoard.UNDO);
@@ -175,7 +175,7 @@ final class DrawingTests {
     }
 
     private static void undoWrong(Checks due) {
-        StrokeBoard board = new StrokeBoard();
+        Played board = new Played();
         due.is("undo(-1)", board.undo(-1), Checks.INVALID);
         due.is("undo(2)", board.undo(2), Checks.INVALID);
         for (int far : Checks.FAR) {
@@ -197,7 +197,7 @@ final class DrawingTests {
     }
 
     private static void undoOwn(Checks due) {
-        StrokeBoard board = new StrokeBoard();
+        Played board = new Played();
         Draw.dot(board, 0, 1, 1, 0, 3);
         Draw.dot(board, 0, 2, 2, 0, 0);
         Draw.dot(board, 1, 3, 3, 0, 0);
@@ -214,7 +214,7 @@ final class DrawingTests {
     }
 
     private static void redo(Checks due) {
-        StrokeBoard board = new StrokeBoard();
+        Played board = new Played();
         Draw.dots(board, 0, 3);
         due.is("nothing was undone", board.redo(0), Checks.IMPOSSIBLE);
         board.undo(0);
@@ -236,7 +236,7 @@ final class DrawingTests {
     }
 
     private static void redoLatest(Checks due) {
-        StrokeBoard board = new StrokeBoard();
+        Played board = new Played();
         Draw.dots(board, 0, 2);
         due.is("undo 2", board.undo(0), 2);
         due.is("undo 1", board.undo(0), 1);
@@ -252,7 +252,7 @@ final class DrawingTests {
     }
 
     private static void redoWrong(Checks due) {
-        StrokeBoard board = new StrokeBoard();
+        Played board = new Played();
         due.is("redo(-1)", board.redo(-1), Checks.INVALID);
         due.is("redo(2)", board.redo(2), Checks.INVALID);
         for (int far : Checks.FAR) {
@@ -272,7 +272,7 @@ final class DrawingTests {
     }
 
     private static void lift(Checks due) {
-        StrokeBoard board = Draw.withSites(3);
+        Played board = Draw.withSites(3);
         Draw.dot(board, 0, 1, 1, 1, 0);
         Draw.dot(board, 0, 2, 2, 2, 0);
         board.deliverAll();
@@ -296,7 +296,7 @@ final class DrawingTests {
     }
 
     private static void liftWrong(Checks due) {
-        StrokeBoard board = new StrokeBoard();
+        Played board = new Played();
         due.is("an empty board", board.lift(0, 0, 0), Checks.IMPOSSIBLE);
         Draw.dots(board, 0, 19);
         due.unchanged("wrong lift", board, () -> {

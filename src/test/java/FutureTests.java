@@ -14,7 +14,7 @@ final class FutureTests {
     }
 
     private static void differing(Checks due) {
-        StrokeBoard board = Draw.withSites(1);
+        Played board = Draw.withSites(1);
         due.is("1 site", board.differing(), 0);
         Draw.dots(board, 0, 2);
         due.is("1 site with strokes", board.differing(), 0);
@@ -41,7 +41,7 @@ final class FutureTests {
     }
 
     private static void differingBoards(Checks due) {
-        StrokeBoard board = Draw.withSites(3);
+        Played board = Draw.withSites(3);
         Draw.dot(board, 0, 1, 1, 1, 1);
         board.lose(0, 1);
         board.lose(0, 2);
@@ -65,7 +65,7 @@ final class FutureTests {
     }
 
     private static void bestHelper(Checks due) {
-        StrokeBoard board = Draw.withSites(4);
+        Played board = Draw.withSites(4);
         due.is("no gaps", board.bestHelper(0), Checks.MISSING);
         Draw.dots(board, 0, 5);
         due.is("nothing known", board.bestHelper(1), Checks.MISSING);
@@ -87,7 +87,7 @@ final class FutureTests {
     }
 
     private static void bestHelperEdges(Checks due) {
-        StrokeBoard board = Draw.withSites(5);
+        Played board = Draw.withSites(5);
         Draw.dots(board, 4, 3);
         board.deliver(4, 1);
         board.deliver(4, 2);
@@ -113,7 +113,7 @@ final class FutureTests {
     }
 
     private static void endangered(Checks due) {
-        StrokeBoard board = Draw.withSites(3);
+        Played board = Draw.withSites(3);
         due.is("none made", board.endangered(0), 0);
         Draw.dots(board, 0, 2);
         due.is("both under way", board.endangered(0), 0);
@@ -146,7 +146,7 @@ final class FutureTests {
     }
 
     private static void endangeredEdges(Checks due) {
-        StrokeBoard board = Draw.withSites(1);
+        Played board = Draw.withSites(1);
         Draw.dots(board, 0, 20);
         due.is("1 site", board.endangered(0), 20);
         due.is("join", board.join(), 1);
@@ -163,7 +163,7 @@ final class FutureTests {
     }
 
     private static void nothingChanges(Checks due) {
-        StrokeBoard board = Draw.withSites(5);
+        Played board = Draw.withSites(5);
         for (int site = 0; site < 5; site++) {
             Draw.dots(board, site, 3);
             board.lose(site, (site + 1) % 5);

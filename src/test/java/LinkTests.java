@@ -22,7 +22,7 @@ final class LinkTests {
         checks.test("promise 18: transfer, sizes and clocks", LinkTests::transferSizes);
     }
 
-    private static void refusesWrongPairs(Checks due, StrokeBoard board, String name, OfTwo method) {
+    private static void refusesWrongPairs(Checks due, Played board, String name, OfTwo method) {
         int sites = board.sites();
         due.unchanged("wrong " + name, board, () -> {
             due.is(name + "(0, 0)", method.call(0, 0), Checks.INVALID);
@@ -40,7 +40,7 @@ final class LinkTests {
     }
 
     private static void deliver(Checks due) {
-        StrokeBoard board = Draw.withSites(5);
+        Played board = Draw.withSites(5);
         due.is("an empty link", board.deliver(3, 4), Checks.MISSING);
         Draw.dots(board, 3, 2);
         due.is("deliver(3, 4)", board.deliver(3, 4), 301);
@@ -67,7 +67,7 @@ final class LinkTests {
     }
 
     private static void deliverKnown(Checks due) {
-        StrokeBoard board = new StrokeBoard();
+        Played board = new Played();
         Draw.dots(board, 0, 2);
         due.is("transfer", board.transfer(1, 0), 8);
         due.is("deliver", board.deliver(0, 1), 1);
@@ -78,7 +78,7 @@ final class LinkTests {
     }
 
     private static void lose(Checks due) {
-        StrokeBoard board = Draw.withSites(3);
+        Played board = Draw.withSites(3);
         due.is("an empty link", board.lose(0, 1), Checks.MISSING);
         Draw.dots(board, 0, 3);
         due.is("lose(0, 1)", board.lose(0, 1), 2);
@@ -99,7 +99,7 @@ final class LinkTests {
     }
 
     private static void deliverAll(Checks due) {
-        StrokeBoard board = Draw.withSites(3);
+        Played board = Draw.withSites(3);
         due.is("nothing", board.deliverAll(), 0);
         Draw.dots(board, 0, 2);
         Draw.dots(board, 1, 1);
@@ -123,7 +123,7 @@ final class LinkTests {
     }
 
     private static void waiting(Checks due) {
-        StrokeBoard board = Draw.withSites(3);
+        Played board = Draw.withSites(3);
         due.is("none", board.waiting(0, 1), 0);
         for (int number = 1; number <= 12; number++) {
             Draw.dot(board, 0, 0, 0, 0, 0);
@@ -143,24 +143,10 @@ final class LinkTests {
         due.is("1 site", board.waiting(0, 0), Checks.INVALID);
     }
 
-    /** Site 1 gets the messages of the numbers given; the others of the first ten are lost. */
-    private static void deliverOnly(StrokeBoard board, int author, int site, int... numbers) {
-        int next = 0;
-        int count = board.waiting(author, site);
-        for (int number = 1; number <= count; number++) {
-            if (next < numbers.length && numbers[next] == number) {
-                board.deliver(author, site);
-                next++;
-            } else {
-                board.lose(author, site);
-            }
-        }
-    }
-
     private static void gap(Checks due) {
-        StrokeBoard board = Draw.withSites(3);
+        Played board = Draw.withSites(3);
         Draw.dots(board, 0, 10);
-        deliverOnly(board, 0, 1, 2, 3, 7, 9);
+        Draw.deliverOnly(board, 0, 1, 2, 3, 7, 9);
         due.is("the first", board.gap(1, 0, 0), 101);
         due.is("a range", board.gap(1, 0, 1), 406);
         due.is("the last", board.gap(1, 0, 2), 808);
@@ -174,9 +160,9 @@ final class LinkTests {
     }
 
     private static void gapEdges(Checks due) {
-        StrokeBoard board = new StrokeBoard();
+        Played board = new Played();
         Draw.dots(board, 1, 10);
-        deliverOnly(board, 1, 0);
+        Draw.deliverOnly(board, 1, 0);
         Draw.dots(board, 1, 10);
         for (int k = 0; k < 9; k++) {
             board.lose(1, 0);
@@ -186,9 +172,9 @@ final class LinkTests {
         due.is("there is one", board.gap(0, 1, 1), Checks.MISSING);
         board.reset(2);
         Draw.dots(board, 1, 10);
-        deliverOnly(board, 1, 0, 2, 4, 6, 8, 10);
+        Draw.deliverOnly(board, 1, 0, 2, 4, 6, 8, 10);
         Draw.dots(board, 1, 10);
-        deliverOnly(board, 1, 0, 2, 4, 6, 8, 10);
+        Draw.deliverOnly(board, 1, 0, 2, 4, 6, 8, 10);
         for (int index = 0; index < 10; index++) {
             due.is("gap " + index, board.gap(0, 1, index), 101 * (2 * index + 1));
         }
@@ -196,9 +182,9 @@ final class LinkTests {
     }
 
     private static void gapWrong(Checks due) {
-        StrokeBoard board = Draw.withSites(3);
+        Played board = Draw.withSites(3);
         Draw.dots(board, 0, 3);
-        deliverOnly(board, 0, 1, 3);
+        Draw.deliverOnly(board, 0, 1, 3);
         due.unchanged("wrong gap", board, () -> {
             due.is("site -1", board.gap(-1, 0, 0), Checks.INVALID);
             due.is("site 3", board.gap(3, 0, 0), Checks.INVALID);
@@ -216,10 +202,10 @@ final class LinkTests {
     }
 
     private static void repair(Checks due) {
-        StrokeBoard board = Draw.withSites(4);
+        Played board = Draw.withSites(4);
         Draw.dots(board, 0, 6);
-        deliverOnly(board, 0, 1, 3, 5);
-        deliverOnly(board, 0, 2, 1, 2, 6);
+        Draw.deliverOnly(board, 0, 1, 3, 5);
+        Draw.deliverOnly(board, 0, 2, 1, 2, 6);
         refusesWrongPairs(due, board, "repair", board::repair);
         due.is("nothing in the gaps", board.repair(3, 0), 0);
         due.is("a helper that knows nothing", board.repair(1, 3), 0);
@@ -234,15 +220,15 @@ final class LinkTests {
         due.is("4", board.repair(1, 0), 1);
         due.is("no link was used", board.waiting(3, 0), 0);
         due.is("the messages wait as before", board.waiting(0, 3), 6);
-        deliverOnly(board, 0, 3);
+        Draw.deliverOnly(board, 0, 3);
         Draw.dots(board, 0, 14);
-        deliverOnly(board, 0, 3);
+        Draw.deliverOnly(board, 0, 3);
         due.is("a gap before none", board.repair(3, 0), 0);
         board.reset(2);
         Draw.dots(board, 1, 10);
-        deliverOnly(board, 1, 0);
+        Draw.deliverOnly(board, 1, 0);
         Draw.dots(board, 1, 10);
-        deliverOnly(board, 1, 0, 10);
+        Draw.deliverOnly(board, 1, 0, 10);
         due.is("a gap before the twentieth", board.repair(0, 1), 19);
         due.is("all known", board.siteInfo(0, 1), 20);
         board.reset(1);
@@ -250,13 +236,13 @@ final class LinkTests {
     }
 
     private static void repairAuthors(Checks due) {
-        StrokeBoard board = Draw.withSites(4);
+        Played board = Draw.withSites(4);
         Draw.dots(board, 0, 3);
         board.transfer(1, 0);
         Draw.dots(board, 1, 3);
         board.transfer(2, 1);
-        deliverOnly(board, 0, 3, 3);
-        deliverOnly(board, 1, 3, 2, 3);
+        Draw.deliverOnly(board, 0, 3, 3);
+        Draw.deliverOnly(board, 1, 3, 2, 3);
         due.is("clock before", board.siteInfo(3, 0), 6);
         due.is("of two authors", board.repair(3, 2), 3);
         due.is("all known", board.siteInfo(3, 1), 6);
@@ -264,7 +250,7 @@ final class LinkTests {
         board.reset(3);
         Draw.dots(board, 1, 5);
         board.transfer(0, 1);
-        deliverOnly(board, 1, 2);
+        Draw.deliverOnly(board, 1, 2);
         Draw.dot(board, 0, 1, 1, 1, 1);
         Draw.dot(board, 2, 1, 1, 1, 1);
         due.is("nothing of 1 is known to 2", board.repair(2, 0), 0);
@@ -272,7 +258,7 @@ final class LinkTests {
     }
 
     private static void transfer(Checks due) {
-        StrokeBoard board = Draw.withSites(3);
+        Played board = Draw.withSites(3);
         Draw.dots(board, 0, 3);
         board.undo(0);
         board.lift(0, 0, 3);
@@ -290,13 +276,13 @@ final class LinkTests {
         due.is("another author's", board.transfer(0, 1), 4);
         due.is("clock", board.siteInfo(0, 0), 6);
         due.is("the helper got nothing", board.siteInfo(1, 1), 6);
-        due.is("a helper that knows none", new StrokeBoard().transfer(0, 1), 0);
+        due.is("a helper that knows none", new Played().transfer(0, 1), 0);
         board.reset(1);
         due.is("1 site", board.transfer(0, 0), Checks.INVALID);
     }
 
     private static void transferSizes(Checks due) {
-        StrokeBoard board = Draw.withSites(3);
+        Played board = Draw.withSites(3);
         Draw.line(board, 0, -4, 3, -5, 0, 0, 4, 8, 8);
         due.is("1 + 2 + 2 + 2 points", board.transfer(1, 0), 4 + 1 + 2 + 2 + 2);
         Draw.dots(board, 1, 5);

@@ -1,9 +1,8 @@
 /** Long runs of calls, each answer compared with the one of Model; the same runs each time. */
 final class ModelTests {
-    private static final int CALLS = 512;
     private static final int RUNS = 1500;
 
-    private final StrokeBoard board = new StrokeBoard();
+    private final Played board = new Played();
     private final Model model = new Model();
     private final Checks due;
     private final int[] weights;
@@ -45,11 +44,11 @@ final class ModelTests {
     }
 
     private int site() {
-        return pick(40) == 0 ? between(-1, 5) : pick(board.sites());
+        return pick(40) == 0 ? between(-1, 5) : pick(model.sites());
     }
 
     private int other(int site) {
-        int sites = board.sites();
+        int sites = model.sites();
         return sites < 2 || pick(40) == 0 ? site() : (site + 1 + pick(sites - 1)) % sites;
     }
 
@@ -71,8 +70,9 @@ final class ModelTests {
         int sites = between(1, 5);
         int skewed = sites == 1 && pick(3) > 0 ? 3 : sites;
         same("run " + number + ": reset(" + skewed + ")", board.reset(skewed), model.reset(skewed));
-        for (int call = 1; call < CALLS; call++) {
-            step("run " + number + ", call " + call + ": ", weighted());
+        // A step asks for the object's calls up to its last one; not every step makes a call.
+        for (int step = 1; board.callsLeft() > 0; step++) {
+            step("run " + number + ", step " + step + ": ", weighted());
         }
     }
 
@@ -127,7 +127,7 @@ final class ModelTests {
     }
 
     private void penMove(String run, int site) {
-        int times = pick(10) == 0 ? 8 : 1;
+        int times = Math.min(pick(10) == 0 ? 8 : 1, board.callsLeft());
         for (int k = 0; k < times; k++) {
             int dx = near(-8, 8);
             int dy = near(-8, 8);
@@ -165,7 +165,7 @@ final class ModelTests {
         switch (pick(8)) {
             case 0: same(run + "siteInfo(" + a + ", " + what + ")", board.siteInfo(a, what), model.siteInfo(a, what)); break;
             case 1: same(run + "waiting(" + a + ", " + b + ")", board.waiting(a, b), model.waiting(a, b)); break;
-            case 2: same(run + "gap(" + a + ", " + b + ", " + what + ")", board.gap(a, b, what - 1), model.gap(a, b, what - 1)); break;
+            case 2: same(run + "gap(" + a + ", " + b + ", " + (what - 1) + ")", board.gap(a, b, what - 1), model.gap(a, b, what - 1)); break;
             case 3: same(run + "gap(" + a + ", " + b + ", 0)", board.gap(a, b, 0), model.gap(a, b, 0)); break;
             case 4: same(run + "operation(" + a + ", " + number + ", " + what + ")",
                     board.operation(a, number, what), model.operation(a, number, what)); break;

@@ -16,7 +16,7 @@ final class SiteTests {
     }
 
     private static void newObject(Checks due) {
-        StrokeBoard board = new StrokeBoard();
+        Played board = new Played();
         due.is("sites()", board.sites(), 2);
         for (int site = 0; site < 2; site++) {
             for (int what = 0; what <= 4; what++) {
@@ -27,13 +27,13 @@ final class SiteTests {
             due.is("operation(" + site + ", 1, 0)", board.operation(site, 1, 0), Checks.MISSING);
         }
         due.is("siteInfo(2, 0)", board.siteInfo(2, 0), Checks.INVALID);
-        StrokeBoard other = new StrokeBoard();
+        Played other = new Played();
         Draw.dot(other, 0, 1, 1, 1, 1);
         due.is("operations of another object", board.siteInfo(0, 1), 0);
     }
 
     private static void reset(Checks due) {
-        StrokeBoard board = new StrokeBoard();
+        Played board = new Played();
         due.is("reset(1)", board.reset(1), 2);
         due.is("sites() after 1", board.sites(), 1);
         due.is("siteInfo(1, 0) of 1 site", board.siteInfo(1, 0), Checks.INVALID);
@@ -54,7 +54,7 @@ final class SiteTests {
     }
 
     private static void resetStartsAnew(Checks due) {
-        StrokeBoard board = Draw.withSites(5);
+        Played board = Draw.withSites(5);
         String fresh = Snapshot.of(board);
         for (int site = 0; site < 5; site++) {
             Draw.line(board, site, 1, 1, 8, 8);
@@ -79,7 +79,7 @@ final class SiteTests {
     }
 
     private static void join(Checks due) {
-        StrokeBoard board = Draw.withSites(1);
+        Played board = Draw.withSites(1);
         for (int number = 1; number <= 4; number++) {
             due.is("join()", board.join(), number);
             due.is("sites()", board.sites(), number + 1);
@@ -92,7 +92,7 @@ final class SiteTests {
     }
 
     private static void joinedSiteIsEmpty(Checks due) {
-        StrokeBoard board = new StrokeBoard();
+        Played board = new Played();
         Draw.dots(board, 0, 3);
         board.deliver(0, 1);
         due.is("join()", board.join(), 2);
@@ -111,7 +111,7 @@ final class SiteTests {
     }
 
     private static void sites(Checks due) {
-        StrokeBoard board = new StrokeBoard();
+        Played board = new Played();
         due.is("sites()", board.sites(), 2);
         for (int count = 1; count <= 5; count++) {
             board.reset(count);
@@ -121,7 +121,7 @@ final class SiteTests {
     }
 
     private static void siteInfo(Checks due) {
-        StrokeBoard board = new StrokeBoard();
+        Played board = new Played();
         Draw.dots(board, 0, 3);
         board.undo(0);
         board.penDown(0, 1, 1, 1, 1);
@@ -141,14 +141,14 @@ final class SiteTests {
         infoIs(due, board, 1, undone);
     }
 
-    private static void infoIs(Checks due, StrokeBoard board, int site, int[] want) {
+    private static void infoIs(Checks due, Played board, int site, int[] want) {
         for (int what = 0; what <= 4; what++) {
             due.is("siteInfo(" + site + ", " + what + ")", board.siteInfo(site, what), want[what]);
         }
     }
 
     private static void siteInfoWrong(Checks due) {
-        StrokeBoard board = Draw.withSites(3);
+        Played board = Draw.withSites(3);
         Draw.dots(board, 0, 2);
         due.unchanged("wrong siteInfo", board, () -> {
             due.is("siteInfo(-1, 0)", board.siteInfo(-1, 0), Checks.INVALID);
@@ -164,7 +164,7 @@ final class SiteTests {
     }
 
     private static void clock(Checks due) {
-        StrokeBoard board = Draw.withSites(3);
+        Played board = Draw.withSites(3);
         Draw.dots(board, 0, 3);
         Draw.dot(board, 1, 0, 0, 0, 0);
         due.is("own clock", board.siteInfo(1, 0), 1);

@@ -1,59 +1,139 @@
-/** All that a caller can see of a board without changing it, as one text. */
+import java.util.function.ToIntFunction;
+
+/**
+ * All that a caller can see of a board, as one text: what it answers, and what it would do next. The
+ * calls are made on new objects in the same state, each with no more than its 512 calls.
+ */
 final class Snapshot {
-    private Snapshot() {
+    private final Played asked;
+    private final StringBuilder text = new StringBuilder();
+    private final int sites;
+    private Played object;
+
+    private Snapshot(Played asked) {
+        this.asked = asked;
+        this.object = asked.again();
+        this.sites = object.sites();
     }
 
-    static String of(StrokeBoard board) {
-        StringBuilder text = new StringBuilder();
-        text.append(board.sites()).append(';').append(board.differing()).append('\n');
-        for (int site = 0; site < board.sites(); site++) {
-            addSite(text, board, site);
-            addLinks(text, board, site);
-            addOperations(text, board, site);
-            addStrokes(text, board, site);
+    static String of(Played board) {
+        Snapshot snapshot = new Snapshot(board);
+        snapshot.addAnswers();
+        snapshot.addFutures();
+        return snapshot.text.toString();
+    }
+
+    private int ask(ToIntFunction<Played> question) {
+        if (object.callsLeft() == 0) {
+            object = asked.again();
         }
-        return text.toString();
+        int answer = question.applyAsInt(object);
+        text.append(answer).append(' ');
+        return answer;
     }
 
-    private static void addSite(StringBuilder text, StrokeBoard board, int site) {
+    private void addAnswers() {
+        ask(Played::sites);
+        ask(Played::differing);
+        for (int site = 0; site < sites; site++) {
+            addSite(site);
+            addPairs(site);
+            addOperations(site);
+            addStrokes(site);
+            text.append('\n');
+        }
+    }
+
+    private void addSite(int site) {
         for (int what = 0; what <= 4; what++) {
-            text.append(board.siteInfo(site, what)).append(' ');
+            int asks = what;
+            ask(board -> board.siteInfo(site, asks));
         }
-        text.append(board.digest(site)).append(' ');
-        text.append(board.bestHelper(site)).append(' ');
-        text.append(board.endangered(site)).append('\n');
+        ask(board -> board.digest(site));
+        ask(board -> board.bestHelper(site));
+        ask(board -> board.endangered(site));
     }
 
-    private static void addLinks(StringBuilder text, StrokeBoard board, int site) {
-        for (int to = 0; to < board.sites(); to++) {
-            text.append(board.waiting(site, to)).append(' ');
-            text.append(board.areSame(site, to)).append(' ');
-            for (int index = 0; index < 12; index++) {
-                text.append(board.gap(site, to, index)).append(' ');
+    private void addPairs(int site) {
+        for (int other = 0; other < sites; other++) {
+            int to = other;
+            ask(board -> board.waiting(site, to));
+            ask(board -> board.areSame(site, to));
+            int answer = 0;
+            for (int index = 0; index < 12 && answer >= 0; index++) {
+                int asks = index;
+                answer = ask(board -> board.gap(site, to, asks));
+            }
+        }
+    }
+
+    private void addOperations(int author) {
+        int kind = 0;
+        for (int k = 1; k <= 21 && kind >= 0; k++) {
+            int number = k;
+            kind = ask(board -> board.operation(author, number, 0));
+            for (int what = 1; what <= 5 && kind >= 0; what++) {
+                int asks = what;
+                ask(board -> board.operation(author, number, asks));
+            }
+            for (int other = 0; other < sites && kind >= 0; other++) {
+                int site = other;
+                ask(board -> board.knows(site, author, number));
+            }
+        }
+    }
+
+    private void addStrokes(int site) {
+        int author = 0;
+        for (int k = 0; k <= 100 && author >= 0; k++) {
+            int place = k;
+            author = ask(board -> board.stroke(site, place, 0));
+            int answer = 0;
+            for (int what = 1; what <= 25 && author >= 0 && answer > -1000; what++) {
+                int asks = what;
+                // 5 to 9 are no values; the points end the row.
+                answer = what >= 5 && what <= 9 ? 0 : ask(board -> board.stroke(site, place, asks));
+            }
+        }
+    }
+
+    /** What the pens hold, what the links hold, and what can be undone and redone. */
+    private void addFutures() {
+        object = asked.again();
+        for (int k = 0; k < sites; k++) {
+            int site = k;
+            go(board -> board.penMove(site, 1, 0));
+            go(board -> board.penUp(site));
+            go(board -> board.digest(site));
+        }
+        text.append('\n');
+        object = asked.again();
+        for (int from = 0; from < sites; from++) {
+            for (int to = 0; to < sites; to++) {
+                goOn(from, to);
             }
         }
         text.append('\n');
-    }
-
-    private static void addOperations(StringBuilder text, StrokeBoard board, int author) {
-        for (int number = 1; number <= 21; number++) {
-            for (int what = 0; what <= 5; what++) {
-                text.append(board.operation(author, number, what)).append(' ');
+        object = asked.again();
+        for (int k = 0; k < sites; k++) {
+            int site = k;
+            for (int answer = 0; answer >= 0; ) {
+                answer = go(board -> board.redo(site));
             }
-            for (int site = 0; site < board.sites(); site++) {
-                text.append(board.knows(site, author, number)).append(' ');
-            }
-        }
-        text.append('\n');
-    }
-
-    private static void addStrokes(StringBuilder text, StrokeBoard board, int site) {
-        int count = board.siteInfo(site, 3);
-        for (int place = 0; place <= count; place++) {
-            for (int what = 0; what <= 25; what++) {
-                text.append(board.stroke(site, place, what)).append(' ');
+            for (int answer = 0; answer >= 0; ) {
+                answer = go(board -> board.undo(site));
             }
         }
-        text.append('\n');
+    }
+
+    private void goOn(int from, int to) {
+        for (int answer = 0; answer >= 0; ) {
+            answer = go(board -> board.deliver(from, to));
+        }
+    }
+
+    /** A call that may change the object; none is made when its calls are used up. */
+    private int go(ToIntFunction<Played> call) {
+        return object.callsLeft() == 0 ? Checks.MISSING : ask(call);
     }
 }
