@@ -14,7 +14,10 @@ public final class AllTests {
         Checks checks = new Checks();
         promises(checks);
         edges(checks);
+        ChangeTests.all(checks);
         FaceTests.all(checks);
+        LanguageTests.all(checks);
+        ReadmeTests.all(checks);
         ModelTests.all(checks);
         checks.test("each promise and each section has a test", AllTests::namesAll);
         System.out.println("own tests: " + checks.passed() + " held, " + checks.failed() + " broken");

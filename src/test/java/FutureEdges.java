@@ -153,6 +153,38 @@ final class FutureEdges {
             Draw.deliverOnly(board, 3, 2, 1, 4, 5, 6, 7, 8, 9);
             due.is("1 gives two", board.bestHelper(0), 1);
         });
+        checks.test("promise 26: bestHelper, operations count, not their sizes or kinds", due -> {
+            Played board = Draw.withSites(3);
+            Draw.line(board, 1, 8, 8, 8, 8, 8, 8, 8, 8, 8, 8, 8, 8, 8, 8);
+            Draw.dot(board, 1, 1, 1, 1, 1);
+            Draw.deliverOnly(board, 1, 0, 2);
+            Draw.dot(board, 2, 1, 1, 1, 1);
+            board.undo(2);
+            board.redo(2);
+            Draw.dot(board, 2, 1, 1, 1, 1);
+            Draw.deliverOnly(board, 2, 0, 1, 4);
+            due.is("1 gives a STROKE of 18, 2 gives UNDO and REDO", board.bestHelper(0), 2);
+        });
+        checks.test("promise 26: bestHelper, what is under way does not count", due -> {
+            Played board = Draw.withSites(4);
+            Draw.dots(board, 1, 3);
+            Draw.deliverOnly(board, 1, 0, 3);
+            board.transfer(2, 1);
+            board.transfer(3, 1);
+            Draw.dots(board, 2, 5);
+            due.is("1, 2 and 3 give two", board.bestHelper(0), 1);
+            due.is("the messages of 2", board.waiting(2, 0), 5);
+        });
+        checks.test("promise 26: bestHelper, a gap counts though its operation is under way", due -> {
+            Played board = Draw.withSites(3);
+            Draw.dots(board, 1, 2);
+            Draw.deliverOnly(board, 1, 2, 2);
+            board.transfer(0, 2);
+            due.is("the message", board.waiting(1, 0), 2);
+            due.is("bestHelper(0)", board.bestHelper(0), 1);
+            board.deliver(1, 0);
+            due.is("when it has come", board.bestHelper(0), Checks.MISSING);
+        });
         checks.test("promise 26: bestHelper, the gaps of all authors count together", due -> {
             Played board = Draw.withSites(5);
             Draw.dots(board, 1, 2);

@@ -257,6 +257,29 @@ final class LinkEdges {
             due.is("known", board.siteInfo(0, 1), 80);
             due.is("clock, the greatest time", board.siteInfo(0, 0), 20);
         });
+        checks.test("promise 17: repair, operations of each kind, of authors other than the helper", due -> {
+            Played board = Draw.withSites(3);
+            Draw.dot(board, 0, 1, 1, 1, 1);
+            board.undo(0);
+            board.redo(0);
+            board.lift(0, 0, 3);
+            Draw.dot(board, 0, 2, 2, 2, 2);
+            Draw.deliverOnly(board, 0, 1, 5);
+            board.transfer(2, 0);
+            due.is("repair", board.repair(1, 2), 4);
+            for (int number = 1; number <= 5; number++) {
+                due.is("knows " + number, board.knows(1, 0, number), 1);
+            }
+            due.is("areSame", board.areSame(0, 1), 1);
+        });
+        checks.test("promise 17: repair does not wait for what is under way to the helper", due -> {
+            Played board = Draw.withSites(3);
+            Draw.dots(board, 0, 3);
+            Draw.deliverOnly(board, 0, 1, 3);
+            board.deliver(0, 2);
+            due.is("repair", board.repair(1, 2), 1);
+            due.is("the gap that stays", board.gap(1, 0, 0), 202);
+        });
         checks.test("promise 17: repair leaves the gaps of the other sites", due -> {
             Played board = Draw.withSites(4);
             Draw.dots(board, 0, 2);

@@ -329,6 +329,18 @@ final class MessageEdges {
             }
             due.is("gap 10", board.gap(1, 0, 10), Checks.MISSING);
         });
+        checks.test(GAPS + "what is still under way to the site is in a gap", due -> {
+            Played board = Draw.withSites(3);
+            Draw.dots(board, 0, 3);
+            Draw.deliverOnly(board, 0, 2, 3);
+            board.transfer(1, 2);
+            due.is("under way", board.waiting(0, 1), 3);
+            due.is("gap", board.gap(1, 0, 0), 102);
+            board.deliver(0, 1);
+            due.is("gap, when the first has come", board.gap(1, 0, 0), 202);
+            board.deliver(0, 1);
+            due.is("gap, when both have come", board.gap(1, 0, 0), Checks.MISSING);
+        });
         checks.test(GAPS + "each author has gaps of its own", due -> {
             Played board = Draw.withSites(3);
             Draw.dots(board, 0, 2);

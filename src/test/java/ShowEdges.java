@@ -101,6 +101,23 @@ final class ShowEdges {
             Draw.deliverOnly(board, 0, 1, 1, 2, 4);
             numbersAre(due, board, 1);
         });
+        checks.test(SHOWS + "of UNDO, UNDO and REDO the REDO counts, without the REDO between them", due -> {
+            Played board = undoneAndRedone();
+            board.undo(0);
+            board.redo(0);
+            Draw.deliverOnly(board, 0, 1, 1, 2, 4, 5);
+            due.is("known", board.siteInfo(1, 1), 4);
+            numbersAre(due, board, 1, 1);
+        });
+        checks.test(SHOWS + "of REDO, REDO and UNDO the UNDO counts, without the UNDOs before them", due -> {
+            Played board = undoneAndRedone();
+            board.undo(0);
+            board.redo(0);
+            board.undo(0);
+            Draw.deliverOnly(board, 0, 1, 1, 3, 5, 6);
+            due.is("known", board.siteInfo(1, 1), 4);
+            numbersAre(due, board, 1);
+        });
         checks.test(SHOWS + "only what the site knows counts", due -> {
             Played board = undoneAndRedone();
             board.deliver(0, 1);
